@@ -18,14 +18,14 @@ public final class DrawnByLost {
         "d3,4;m1,1;m2,2;m4,3;m5,1;m7,4;m9,2;m10,5;h5,2;w0012;w1213;w2354;w301;w0315;";
 
     private final Reader reader = new Reader();
-    private final Land land = new Land();
+    private final Finder finder = new Finder();
+    private final Land land = finder.land;
     private final Story now = new Story();
     private final Story trial = new Story();
     private final Pile done = new Pile(MOST_UNDONE);
     private final Pile kept = new Pile(MOST_KEPT);
-    private final Finder finder = new Finder(land);
-    private final Traveller traveller = new Traveller(finder);
-    private final Speller speller = new Speller(finder);
+    private final Traveller traveller = new Traveller();
+    private final Speller speller = new Speller();
 
     public DrawnByLost() {
         for (int i = 0; i < FIRST_TEXT.length(); i++) {
@@ -75,12 +75,12 @@ public final class DrawnByLost {
             return BAD;
         }
         if (k == -2) {
-            return now.kinds[w];
+            return now.kindOf(w);
         }
         if (k == -1) {
-            return now.sizes[w];
+            return now.sizeOf(w);
         }
-        return k < now.sizes[w] ? now.toldMark(w, k) : NONE;
+        return k < now.sizeOf(w) ? now.toldMark(w, k) : NONE;
     }
 
     // ---- acts
@@ -144,7 +144,7 @@ public final class DrawnByLost {
         if (!isWalk(w) || k < 0) {
             return BAD;
         }
-        return k < now.sizes[w] ? present().onFirstRow(now, w, k) : NONE;
+        return k < now.sizeOf(w) ? present().onFirstRow(now, w, k) : NONE;
     }
 
     public int ends(int w) {
@@ -198,8 +198,7 @@ public final class DrawnByLost {
         if (!isPlace(x) || k < -1 || k >= MOST_SPELT) {
             return BAD;
         }
-        present();
-        int size = speller.spell(1 << x);
+        int size = speller.spell(present(), 1 << x);
         if (size == 0 || k >= size) {
             return NONE;
         }
@@ -227,8 +226,8 @@ public final class DrawnByLost {
         if (!isPlace(x) || !isPlace(y) || !isChoice(what)) {
             return BAD;
         }
-        traveller.measure(now.marks, y);
-        return what == 0 ? traveller.left[x] : traveller.next(now.marks, x);
+        traveller.measure(land, now.marks, y);
+        return what == 0 ? traveller.left[x] : traveller.next(land, now.marks, x);
     }
 
     public int fear() {
@@ -246,11 +245,10 @@ public final class DrawnByLost {
         if (!isWalk(w) || n < 0 || n >= MOST_TOLD) {
             return BAD;
         }
-        if (now.kinds[w] != PLAIN || now.sizes[w] <= n) {
+        if (now.kindOf(w) != PLAIN || now.sizeOf(w) <= n) {
             return NO;
         }
-        present();
-        return traveller.chance(now, w, n);
+        return traveller.chance(present(), now, w, n);
     }
 
     public int huts(int what) {
@@ -323,11 +321,11 @@ public final class DrawnByLost {
     // ---- helpers
 
     private boolean isPlace(int x) {
-        return x >= 0 && x < land.places();
+        return x >= 0 && x < land.places() && x < MOST_PLACES;
     }
 
     private boolean isWalk(int w) {
-        return w >= 0 && w < now.walks;
+        return w >= 0 && w < now.walks && w < MOST_WALKS;
     }
 
     private static boolean isMark(int m) {
@@ -543,6 +541,14 @@ public final class DrawnByLost {
             walks--;
         }
 
+        int kindOf(int w) {
+            return w >= 0 && w < MOST_WALKS ? kinds[w] : PLAIN;
+        }
+
+        int sizeOf(int w) {
+            return w >= 0 && w < MOST_WALKS ? sizes[w] : 0;
+        }
+
         int toldMark(int w, int k) {
             if (w < 0 || w >= MOST_WALKS || k < 0 || k >= MOST_TOLD) {
                 return NONE;
@@ -552,7 +558,7 @@ public final class DrawnByLost {
 
         /** The mark of the i-th place of a row along which the walk lies. */
         int rowMark(int w, int i) {
-            return kinds[w] == TURNED ? toldMark(w, sizes[w] - 1 - i) : toldMark(w, i);
+            return kindOf(w) == TURNED ? toldMark(w, sizeOf(w) - 1 - i) : toldMark(w, i);
         }
     }
 
@@ -736,16 +742,12 @@ public final class DrawnByLost {
 
     /** Finds the rows of places along which walks can lie, by the marks looked at last. */
     private static final class Finder {
-        final Land land;
+        final Land land = new Land();
         private final int[] spots = new int[MARKS];
         private final int[] ahead = new int[MOST_TOLD];
         private final int[] behind = new int[MOST_TOLD];
         private final int[] tally = new int[MOST_PLACES];
         private final int[] later = new int[MOST_PLACES];
-
-        Finder(Land land) {
-            this.land = land;
-        }
 
         void look(int[] marks) {
             for (int mark = 0; mark < MARKS; mark++) {
@@ -791,7 +793,7 @@ public final class DrawnByLost {
             for (int w = 0; w < story.walks; w++) {
                 goFrom(story, w, land.all);
                 goBack(story, w);
-                for (int i = 0; i < story.sizes[w] && i < MOST_TOLD; i++) {
+                for (int i = 0; i < story.sizeOf(w) && i < MOST_TOLD; i++) {
                     set |= ahead[i] & behind[i];
                 }
             }
@@ -803,18 +805,18 @@ public final class DrawnByLost {
             goBack(story, w);
             int x = lowest(behind[0]);
             for (int i = 1; i <= k && i < MOST_TOLD && x != NONE; i++) {
-                x = lowest(land.reach(story.kinds[w], 1 << x) & behind[i]);
+                x = lowest(land.reach(story.kindOf(w), 1 << x) & behind[i]);
             }
             return x;
         }
 
         int rowsOf(Story story, int w) {
-            int kind = story.kinds[w];
+            int kind = story.kindOf(w);
             int set = placesOf(story.rowMark(w, 0));
             for (int x = 0; x < MOST_PLACES; x++) {
                 tally[x] = set >> x & 1;
             }
-            for (int i = 1; i < story.sizes[w]; i++) {
+            for (int i = 1; i < story.sizeOf(w); i++) {
                 addUp(kind, placesOf(story.rowMark(w, i)));
             }
             int sum = 0;
@@ -837,8 +839,8 @@ public final class DrawnByLost {
         int goFrom(Story story, int w, int begin) {
             int set = begin & placesOf(story.rowMark(w, 0));
             ahead[0] = set;
-            for (int i = 1; i < story.sizes[w] && i < MOST_TOLD; i++) {
-                set = land.reach(story.kinds[w], set) & placesOf(story.rowMark(w, i));
+            for (int i = 1; i < story.sizeOf(w) && i < MOST_TOLD; i++) {
+                set = land.reach(story.kindOf(w), set) & placesOf(story.rowMark(w, i));
                 ahead[i] = set;
             }
             return set;
@@ -846,10 +848,10 @@ public final class DrawnByLost {
 
         /** Fills behind: the i-th are the places from which the rest of the walk can go on. */
         private void goBack(Story story, int w) {
-            int last = Math.min(story.sizes[w], MOST_TOLD) - 1;
+            int last = Math.min(story.sizeOf(w), MOST_TOLD) - 1;
             int set = land.all;
             for (int i = last; i >= 0; i--) {
-                set = (i == last ? set : land.reach(story.kinds[w], set)) & placesOf(story.rowMark(w, i));
+                set = (i == last ? set : land.reach(story.kindOf(w), set)) & placesOf(story.rowMark(w, i));
                 behind[i] = set;
             }
         }
@@ -892,33 +894,28 @@ public final class DrawnByLost {
 
     /** Finds the fewest marks by which a plain walker's end is known. */
     private static final class Speller {
-        private final Finder finder;
         final int[] word = new int[MOST_SPELT];
         private final int[] ends = new int[MOST_SPELT];
 
-        Speller(Finder finder) {
-            this.finder = finder;
-        }
-
         /** How many marks, told in word, end in this set of places alone; 0: none do. */
-        int spell(int goal) {
+        int spell(Finder finder, int goal) {
             int words = 1;
             for (int size = 1; size <= MOST_SPELT; size++) {
                 words *= MARKS;
-                if (spellIn(size, words, goal)) {
+                if (spellIn(finder, size, words, goal)) {
                     return size;
                 }
             }
             return 0;
         }
 
-        private boolean spellIn(int size, int words, int goal) {
+        private boolean spellIn(Finder finder, int size, int words, int goal) {
             for (int i = 0; i < MOST_SPELT; i++) {
                 word[i] = 0;
             }
             int from = 0;
             for (int turn = 0; turn < words && from >= 0; turn++) {
-                endAgain(from, size);
+                endAgain(finder, from, size);
                 if (ends[size - 1] == goal) {
                     return true;
                 }
@@ -928,7 +925,7 @@ public final class DrawnByLost {
         }
 
         /** Ends of the word's beginnings, anew from the mark that is another one now. */
-        private void endAgain(int from, int size) {
+        private void endAgain(Finder finder, int from, int size) {
             for (int i = Math.max(from, 0); i < size && i < MOST_SPELT; i++) {
                 int reach = i == 0 ? finder.land.all : finder.land.beside(ends[i - 1]);
                 ends[i] = reach & finder.placesOf(word[i]);
@@ -952,19 +949,12 @@ public final class DrawnByLost {
     private static final class Traveller {
         private static final int FAR = 1000000;
         private static final int SHARES = 12;
-        private final Land land;
-        private final Finder finder;
         final int[] left = new int[MOST_PLACES];
         private final int[] odds = new int[MOST_PLACES];
         private final int[] later = new int[MOST_PLACES];
 
-        Traveller(Finder finder) {
-            this.finder = finder;
-            this.land = finder.land;
-        }
-
         /** Fills left: the least hunger from each place to this one. */
-        void measure(int[] marks, int goal) {
+        void measure(Land land, int[] marks, int goal) {
             for (int x = 0; x < MOST_PLACES; x++) {
                 left[x] = x == goal ? 0 : FAR;
             }
@@ -972,7 +962,7 @@ public final class DrawnByLost {
             for (int turn = 0; turn < MOST_PLACES && changed; turn++) {
                 changed = false;
                 for (int x = 0; x < land.places() && x < MOST_PLACES; x++) {
-                    int least = leastOn(marks, x);
+                    int least = leastOn(land, marks, x);
                     if (least < left[x]) {
                         left[x] = least;
                         changed = true;
@@ -982,45 +972,45 @@ public final class DrawnByLost {
         }
 
         /** The next place from here to where was measured, of several the lowest. */
-        int next(int[] marks, int x) {
+        int next(Land land, int[] marks, int x) {
             if (x < 0 || x >= MOST_PLACES || left[x] == 0) {
                 return x;
             }
             for (int y = 0; y < MOST_PLACES; y++) {
-                if (isBeside(x, y) && through(marks, y) == left[x]) {
+                if (isBeside(land, x, y) && through(land, marks, y) == left[x]) {
                     return y;
                 }
             }
             return x;
         }
 
-        private int leastOn(int[] marks, int x) {
+        private int leastOn(Land land, int[] marks, int x) {
             int least = FAR;
             for (int y = 0; y < MOST_PLACES; y++) {
-                if (isBeside(x, y)) {
-                    least = Math.min(least, through(marks, y));
+                if (isBeside(land, x, y)) {
+                    least = Math.min(least, through(land, marks, y));
                 }
             }
             return least;
         }
 
-        private int through(int[] marks, int y) {
-            return y < marks.length ? land.hungerOf(marks[y]) + left[y] : FAR;
+        private int through(Land land, int[] marks, int y) {
+            return y >= 0 && y < marks.length && y < MOST_PLACES ? land.hungerOf(marks[y]) + left[y] : FAR;
         }
 
-        private boolean isBeside(int x, int y) {
+        private static boolean isBeside(Land land, int x, int y) {
             return (land.beside(1 << x) >> y & 1) == 1;
         }
 
         /** How many of 100000 who go n times on by chance go past the first n and 1 marks of this walk. */
-        int chance(Story story, int w, int n) {
+        int chance(Finder finder, Story story, int w, int n) {
             int set = finder.placesOf(story.toldMark(w, 0));
             for (int x = 0; x < MOST_PLACES; x++) {
                 odds[x] = set >> x & 1;
             }
-            long whole = land.places();
+            long whole = finder.land.places();
             for (int i = 1; i <= n; i++) {
-                goOn(finder.placesOf(story.toldMark(w, i)));
+                goOn(finder.land, finder.placesOf(story.toldMark(w, i)));
                 whole *= SHARES;
             }
             long part = 0;
@@ -1031,7 +1021,7 @@ public final class DrawnByLost {
         }
 
         /** Twelve shares for each one now, as two, three and four places beside all divide them. */
-        private void goOn(int set) {
+        private void goOn(Land land, int set) {
             for (int x = 0; x < MOST_PLACES; x++) {
                 later[x] = 0;
             }
