@@ -381,7 +381,7 @@ public final class DrawnByLost {
 
     /** Whether nobody would have lied with these two swapped; the trial is left as it was. */
     private boolean wouldMend(int x, int y) {
-        if (trial.marks[x] == trial.marks[y]) {
+        if (!isPlace(x) || !isPlace(y) || trial.marks[x] == trial.marks[y]) {
             return false;
         }
         trial.trade(x, y);

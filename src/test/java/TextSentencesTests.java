@@ -59,6 +59,26 @@ public final class TextSentencesTests {
         });
     }
 
+    private static void calls() {
+        sentence(1, "An object is used for at most 512 calls after it has been made;", () -> {
+            DrawnByLost x = new DrawnByLost();
+            for (int turn = 1; turn <= 170; turn++) {
+                due("swap", x.swap(0, 1), turn % 2);
+                due("acts", x.count(3), Math.min(turn, 8));
+                if (turn % 2 == 0) due("lied", x.lied(), 20);
+                else due("walks", x.count(2), 5);
+            }
+            due("the 511th", x.moved(1), 16 * 6 + 10);
+            due("the 512th", x.known(4, 0), 3);
+            DrawnByLost y = new DrawnByLost();
+            for (int call = 1; call <= 511; call++) due("write or wipe", call % 3 == 0 ? y.wipe() : y.write('w'), call % 3 == 0 ? 2 : call % 3);
+            due("the 512th", y.count(5), 1);
+            DrawnByLost z = new DrawnByLost();
+            for (int call = 1; call <= 511; call++) z.alter(call % 12, call % 6);
+            due("the 512th", z.undo(), 7);
+        });
+    }
+
     private static void write() {
         sentence(2, "A letter (32 to 126, as in ASCII) comes behind THE TEXT: how long it is.", () -> {
             DrawnByLost x = new DrawnByLost();
@@ -241,6 +261,12 @@ public final class TextSentencesTests {
                 }
             }
             same("0 without", Sentences.marks(laid("d2,3;m4,5;w000;")), "000050");
+            DrawnByLost x = laid("m0,1;m1,1;m2,1;m3,1;m4,1;m5,1;m6,1;m7,1;m8,1;m9,1;m10,1;m11,1;m12,1;m13,1;m14,1;m15,1;w011;");
+            same("with", Sentences.marks(x), "1111111111111111");
+            x.wipe();
+            Sentences.put(x, "w000;");
+            due("laid without", x.lay(), 16);
+            same("not as it was laid ahead", Sentences.marks(x), "0000000000000000");
             same("the last one of each", Sentences.marks(laid("d2,3;m4,5;m1,2;m4,3;m1,1;m2,4;m2,0;w000;")), "010030");
         });
         sentence(4, "to come to a PLACE of MARK M takes H (1 to 9) HUNGER (M and 1 without; the last one of each)", () -> {
@@ -259,11 +285,14 @@ public final class TextSentencesTests {
                 due("the last one, mark " + m, laid("d2,2;m1," + m + ";h" + m + ",9;h" + m + ",8;w000;").road(0, 1, 0), 8);
                 due("of another mark", laid("d2,2;m1," + m + ";h" + (m + 1) % 6 + ",9;w000;").road(0, 1, 0), m + 1);
             }
-            DrawnByLost x = laid("d2,2;h0,7;w000;");
+            DrawnByLost x = laid("d2,2;h0,7;h1,7;h2,7;h3,7;h4,7;h5,7;w000;");
             x.wipe();
             Sentences.put(x, "d2,2;w000;");
             x.lay();
-            due("not as it was laid ahead", x.road(0, 1, 0), 1);
+            for (int m = 0; m < 6; m++) {
+                x.alter(1, m);
+                due("not as it was laid ahead, mark " + m, x.road(0, 1, 0), m + 1);
+            }
         });
         sentence(4, "Numbers of d, m, h have one or two figures.", () -> {
             for (String fits : new String[] {"d02,2;", "d2,02;", "d04,04;", "m01,1;", "m1,01;", "m00,00;", "m15,05;", "h01,1;",
@@ -410,6 +439,7 @@ public final class TextSentencesTests {
 
     public static void main(String[] args) {
         newObject();
+        calls();
         write();
         wipe();
         items();

@@ -61,6 +61,15 @@ public final class WalkSentencesTests {
             fromOneToTwo("w312;", (rows, columns) -> true);
             due("not the one where he is", laid("m0,1;w311;").ways(0), 0);
             due("nor by the way", laid("m0,1;m4,2;w3112;").ways(0), 0);
+            for (String walk : new String[] {"w350;", "w305;", "w3050;", "w3500;", "w3005;", "w30500;"}) {
+                DrawnByLost nowhere = laid("d2,2;" + walk);
+                due(walk + " ways, 5 is nowhere", nowhere.ways(0), 0);
+                due(walk + " ends, 5 is nowhere", nowhere.ends(0), 0);
+                due(walk + " first, 5 is nowhere", nowhere.first(0, 0), NONE);
+                due(walk + " round, 5 is nowhere", nowhere.round(0), 0);
+                due(walk + " lied, 5 is nowhere", nowhere.lied(), 1);
+                due(walk + " nobody, 5 is nowhere", nowhere.nobody(), 15);
+            }
             due("from one corner to the other", laid("m0,1;m15,1;w311;").ways(0), 2);
             due("ends", laid("m0,1;m15,1;w311;").ends(0), 1 | 1 << 15);
         });
