@@ -28,7 +28,7 @@ public final class ActSentencesTests {
     }
 
     private static void swap() {
-        sentence(8, "Two PLACES' MARKS are SWAPPED: that of the first one then. BAD (alike, too).", () -> {
+        sentence(8, "`int swap(int x, int y)`: Two PLACES' MARKS are SWAPPED: that of the first one then. BAD (alike, too).", () -> {
             DrawnByLost x = laid("d2,3;m0,1;m1,2;m2,3;m3,4;m4,5;w000;");
             due("first and last", x.swap(0, 5), 0);
             same("marks", marks(x), "023451");
@@ -101,7 +101,7 @@ public final class ActSentencesTests {
                 due("tell " + n, x.tell(0, n), BAD);
             }
         });
-        sentence(10, "A WALK is TOLD", () -> {
+        sentence(10, "`int tell(int kind, int marks)`: A WALK is TOLD", () -> {
             DrawnByLost x = laid("d2,2;w000;");
             for (int kind : new int[] {-1, 4, MIN, MAX}) due("of kind " + kind, x.tell(kind, 11), BAD);
             for (int kind = 0; kind < 4; kind++) {
@@ -268,7 +268,7 @@ public final class ActSentencesTests {
     }
 
     private static void count() {
-        sentence(30, "How many: 0 PLACES, 1 rows, 2 WALKS, 3 that can be UNDONE, 4 KEPT, 5 letters of THE TEXT. BAD.", () -> {
+        sentence(30, "`int count(int what)`: How many: 0 PLACES, 1 rows, 2 WALKS, 3 that can be UNDONE, 4 KEPT, 5 letters of THE TEXT. BAD.", () -> {
             DrawnByLost x = laid("d3,2;w000;w000;");
             int[] counts = {6, 3, 2, 0, 0, 15};
             for (int n = 0; n < 6; n++) due("count " + n, x.count(n), counts[n]);

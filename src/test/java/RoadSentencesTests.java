@@ -17,6 +17,11 @@ public final class RoadSentencesTests {
         return Sentences.laid(text);
     }
 
+    /** How many rows and columns together these places are from each other, in rows of c. */
+    private static int apart(int a, int b, int c) {
+        return Math.abs(a / c - b / c) + Math.abs(a % c - b % c);
+    }
+
     private static void road() {
         sentence(23, "ROAD from one PLACE to another one: the least HUNGER, each PLACE BESIDE the one ahead", () -> {
             for (int r = 2; r <= 4; r++) {
@@ -24,8 +29,7 @@ public final class RoadSentencesTests {
                     DrawnByLost x = laid("d" + r + "," + c + ";h0,3;w000;");
                     for (int a = 0; a < r * c; a++) {
                         for (int b = 0; b < r * c; b++) {
-                            int far = Math.abs(a / c - b / c) + Math.abs(a % c - b % c);
-                            due("of " + r + "," + c + " from " + a + " to " + b, x.road(a, b, 0), 3 * far);
+                            due("of " + r + "," + c + " from " + a + " to " + b, x.road(a, b, 0), 3 * apart(a, b, c));
                         }
                     }
                 }
@@ -109,10 +113,18 @@ public final class RoadSentencesTests {
             z.lay();
             due("what was laid ahead is nowhere", z.fear(), 62);
         });
+        sentence(24, "`int fear()`: FEAR, as bits.", () -> {
+            String[] items = {"", "m1,1;", "m2,2;", "m3,3;", "m4,4;", "m5,5;"};
+            for (int mark = 1; mark < 6; mark++) {
+                StringBuilder text = new StringBuilder("d2,4;w000;");
+                for (int m = 1; m < 6; m++) text.append(m == mark ? "" : items[m]);
+                due("mark " + mark + " alone", laid(text.toString()).fear(), 1 << mark);
+            }
+        });
     }
 
     private static void lost() {
-        sentence(25, "one begins in any PLACE alike likely, goes to any one BESIDE, each alike likely, n (0 to 4) times:", () -> {
+        sentence(25, "LOST by chance: one begins in any PLACE alike likely, goes to any one BESIDE, each alike likely, n (0 to 4) times:", () -> {
             for (int r = 2; r <= 4; r++) {
                 for (int c = 2; c <= 4; c++) {
                     for (int p = 0; p < r * c; p++) {
@@ -169,7 +181,7 @@ public final class RoadSentencesTests {
     private static int fromBeside(int r, int c, int p) {
         int twelfths = 0;
         for (int q = 0; q < r * c; q++) {
-            if (Math.abs(p / c - q / c) + Math.abs(p % c - q % c) != 1) continue;
+            if (apart(p, q, c) != 1) continue;
             int up = q / c > 0 ? 1 : 0, down = q / c < r - 1 ? 1 : 0, left = q % c > 0 ? 1 : 0, right = q % c < c - 1 ? 1 : 0;
             twelfths += 12 / (up + down + left + right);
         }
@@ -228,11 +240,24 @@ public final class RoadSentencesTests {
                 int[] two = draw(z, week, places);
                 at = moved(at, two);
                 other = moved(other, two);
-                boolean lies = Math.abs(at / c - other / c) + Math.abs(at % c - other % c) == 1;
+                boolean lies = apart(at, other, c) == 1;
                 if (!lies && behind == NONE) behind = week + 1;
                 int bits = (lies ? 0 : 1) | (places == 4 && !lies ? 2 : 0);
                 due("flood " + z + " of " + (week + 1) + " weeks in " + r + "," + c, x.flood(z, week + 1, 0), bits);
                 due("behind how many of " + (week + 1), x.flood(z, week + 1, 1), behind);
+            }
+        }
+    }
+
+    /** A 1 on one of the two places that the first week swaps is on the other one then, all others stay. */
+    private static void oneWeek(int r, int c, int z) {
+        int[] two = draw(z, 0, r * c);
+        for (int other = 0; other < r * c; other++) {
+            if (other == two[0] || other == two[1]) continue;
+            for (int i = 0; i < 2; i++) {
+                DrawnByLost x = laid("d" + r + "," + c + ";m" + two[i] + ",1;m" + other + ",2;w012;");
+                boolean lies = apart(two[1 - i], other, c) == 1;
+                due("flood " + z + " in " + r + "," + c + " from " + two[i] + " beside " + other, x.flood(z, 1, 0), lies ? 0 : 1);
             }
         }
     }
@@ -246,15 +271,15 @@ public final class RoadSentencesTests {
             DrawnByLost x = laid("d2,3;m0,1;m1,2;w012;");
             due("the lowest z", x.flood(0, 1, 1), floodOfOne(0));
             due("the highest z", x.flood(9999, 1, 1), floodOfOne(9999));
-            for (int what = 0; what < 2; what++) {
-                for (int z : new int[] {-1, 10000, MIN, MAX}) due("z " + z, x.flood(z, 1, what), BAD);
-                for (int n : new int[] {0, 41, -1, MIN, MAX}) due("n " + n, x.flood(0, n, what), BAD);
-            }
-            for (int what : new int[] {2, -1, MIN, MAX}) due("what " + what, x.flood(0, 1, what), BAD);
             int now = x.flood(77, 3, 0);
             x.flood(78, 40, 0);
             due("the same again: it begins from now on", x.flood(77, 3, 0), now);
             Sentences.same("nothing is swapped", Sentences.marks(x), "120000");
+        });
+        sentence(27, "in each PLACES DRAW modulo as many and (DRAW by 16, cut) modulo as many are SWAPPED,", () -> {
+            for (int r = 2; r <= 4; r++) {
+                for (int c = 2; c <= 4; c++) for (int z = 0; z < 10000; z += 1111) oneWeek(r, c, z);
+            }
         });
         sentence(27, "DRAW being ((x times x) modulo 65521) by 4, cut, x 7919 z, 6151 (the week, 0 first) and 1 together:", () -> {
             // z 0, week 0: x 1, DRAW 0: 0 with 0. Week 1: x 6152, its square modulo 65521 is 41487, DRAW 10371: of 12 places 3 and (648) 0
@@ -290,13 +315,27 @@ public final class RoadSentencesTests {
             due("behind two", y.flood(0, 2, 1), 2);
             due("behind two of three", y.flood(0, 3, 1), 2);
         });
+        sentence(27, "`int flood(int z, int n, int what)`: A FLOOD: WALKS (what = 0), behind how many weeks (1; NONE). BAD.", () -> {
+            DrawnByLost x = laid("d2,3;m0,1;m1,2;w000;w005;w012;");
+            due("walks", x.flood(9999, 40, 0) & 3, 2);
+            due("weeks", x.flood(9999, 40, 1), 1);
+            x.strike(1);
+            x.strike(1);
+            due("no walks", x.flood(9999, 40, 0), 0);
+            due("no week", x.flood(9999, 40, 1), NONE);
+            for (int what = 0; what < 2; what++) {
+                for (int z : new int[] {-1, 10000, MIN, MAX}) due("z " + z, x.flood(z, 1, what), BAD);
+                for (int n : new int[] {0, 41, -1, MIN, MAX}) due("n " + n, x.flood(0, n, what), BAD);
+            }
+            for (int what : new int[] {2, -1, MIN, MAX}) due("what " + what, x.flood(0, 1, what), BAD);
+        });
     }
 
     /** Behind how many weeks of one the 1 at 0 stands not beside the 2 at 1, in two rows of three. */
     private static int floodOfOne(int z) {
         int[] two = draw(z, 0, 6);
         int one = moved(0, two), other = moved(1, two);
-        return Math.abs(one / 3 - other / 3) + Math.abs(one % 3 - other % 3) == 1 ? NONE : 1;
+        return apart(one, other, 3) == 1 ? NONE : 1;
     }
 
     public static void main(String[] args) {

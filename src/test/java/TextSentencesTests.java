@@ -80,7 +80,7 @@ public final class TextSentencesTests {
     }
 
     private static void write() {
-        sentence(2, "A letter (32 to 126, as in ASCII) comes behind THE TEXT: how long it is.", () -> {
+        sentence(2, "`int write(int letter)`: A letter (32 to 126, as in ASCII) comes behind THE TEXT: how long it is.", () -> {
             DrawnByLost x = new DrawnByLost();
             due("the letter ahead of the lowest", x.write(31), BAD);
             due("the lowest", x.write(32), 1);
@@ -196,7 +196,7 @@ public final class TextSentencesTests {
     }
 
     private static void deltas() {
-        sentence(4, "a DELTA of R rows of C PLACES (2 to 4 each;", () -> {
+        sentence(4, "dR,C a DELTA of R rows of C PLACES (2 to 4 each;", () -> {
             for (int r = 0; r <= 6; r++) {
                 for (int c = 0; c <= 6; c++) {
                     boolean fits = r >= 2 && r <= 4 && c >= 2 && c <= 4;
@@ -245,7 +245,7 @@ public final class TextSentencesTests {
     }
 
     private static void marksAndHunger() {
-        sentence(4, "PLACE X has MARK M (0 to 5; 0 without; the last one of each)", () -> {
+        sentence(4, "mX,M PLACE X has MARK M (0 to 5; 0 without; the last one of each)", () -> {
             faultDue("m0,0;", NONE);
             faultDue("m0,5;", NONE);
             faultDue("m0,6;", 0);
@@ -269,7 +269,7 @@ public final class TextSentencesTests {
             same("not as it was laid ahead", Sentences.marks(x), "0000000000000000");
             same("the last one of each", Sentences.marks(laid("d2,3;m4,5;m1,2;m4,3;m1,1;m2,4;m2,0;w000;")), "010030");
         });
-        sentence(4, "to come to a PLACE of MARK M takes H (1 to 9) HUNGER (M and 1 without; the last one of each)", () -> {
+        sentence(4, "hM,H to come to a PLACE of MARK M takes H (1 to 9) HUNGER (M and 1 without; the last one of each)", () -> {
             faultDue("h0,1;", NONE);
             faultDue("h0,9;", NONE);
             faultDue("h0,0;", 0);
@@ -304,7 +304,7 @@ public final class TextSentencesTests {
     }
 
     private static void walksOfTheText() {
-        sentence(4, "a WALK of a walker of KIND K (0 PLAIN, 1 TURNED, 2 HUNGRY, 3 LIAR)", () -> {
+        sentence(4, "wKABC.. a WALK of a walker of KIND K (0 PLAIN, 1 TURNED, 2 HUNGRY, 3 LIAR)", () -> {
             for (int k = 0; k < 10; k++) faultDue("w" + k + "012;", k < 4 ? NONE : 0);
             faultDue("w-012;", 0);
             faultDue("wx12;", 0);
@@ -313,7 +313,7 @@ public final class TextSentencesTests {
             due("ends of the first four", x.ends(0) | x.ends(1) | x.ends(2) | x.ends(3), 1 << 1 | 1 << 1 | 1 << 2 | 1 << 10);
             due("who lied", x.lied(), 16);
         });
-        sentence(4, "(two to five figures 0 to 5); 5 at most, 0, 1, ..", () -> {
+        sentence(4, "who went past MARKS A, B, C, .. (two to five figures 0 to 5); 5 at most, 0, 1, ..", () -> {
             faultDue("w0;", 0);
             faultDue("w00;", 0);
             faultDue("w000;", NONE);
@@ -348,7 +348,7 @@ public final class TextSentencesTests {
                 due("THE TEXT stays", x.count(5), text.length());
             }
         });
-        sentence(5, "LAID: how many PLACES; nothing UNDONE, KEPT. NO.", () -> {
+        sentence(5, "`int lay()`: LAID: how many PLACES; nothing UNDONE, KEPT. NO.", () -> {
             for (int r = 2; r <= 4; r++) {
                 for (int c = 2; c <= 4; c++) due("lay", Sentences.written("d" + r + "," + c + ";w000;").lay(), r * c);
             }

@@ -218,6 +218,17 @@ public final class WalkSentencesTests {
             due("nobody", x.lied(), 0);
             due("all five", laid("w001;w101;w201;w301;w011;").lied(), 31);
         });
+        sentence(16, "`int lied()`: LIED, as bits.", () -> {
+            for (int w = 0; w < 5; w++) {
+                StringBuilder text = new StringBuilder("d2,2;");
+                for (int v = 0; v < 5; v++) text.append(v == w ? "w005;" : "w000;");
+                due("walk " + w + " alone", laid(text.toString()).lied(), 1 << w);
+            }
+            DrawnByLost x = laid("d2,2;w005;w000;");
+            x.strike(0);
+            x.strike(0);
+            due("no walk", x.lied(), 0);
+        });
         sentence(17, "NOBODY: PLACES (bits) that are in no row along which any WALK can LIE.", () -> {
             DrawnByLost x = laid("d2,4;m1,1;m7,2;w010;w021;");
             due("1 and those beside it", x.nobody(), 0xff & ~(1 << 1 | 1 | 1 << 2 | 1 << 5));
@@ -234,6 +245,12 @@ public final class WalkSentencesTests {
             due("what is on no whole row", laid("d2,4;m1,1;m2,3;m7,1;w0013;").nobody(), 0xff & ~(1 | 1 << 1 | 1 << 2 | 1 << 5));
             due("places of all rows of a walk", laid("d2,4;m0,1;m3,1;w010;").nobody(), 1 << 5 | 1 << 6);
             due("none of 16 is passed", laid("w001;").nobody(), 0xffff);
+        });
+        sentence(17, "`int nobody()`: NOBODY, as bits.", () -> {
+            for (int p = 0; p < 16; p++) {
+                // all are passed but the one whose mark nobody tells
+                due("place " + p + " alone", laid("m" + p + ",5;w000;").nobody(), 1 << p);
+            }
         });
     }
 
@@ -330,7 +347,7 @@ public final class WalkSentencesTests {
             DrawnByLost z = laid("m15,5;w000;");
             knownAs(z, 15, 5);
         });
-        sentence(20, "of several the first (by MARKS, the first ahead)", () -> {
+        sentence(20, "of several the first (by MARKS, the first ahead): how many; the k-th MARK; none.", () -> {
             // marks 2 2 2 0, below them 0 0 1 0: 1 0 2 and 1 2 2 end in place 1, 1 0 2 0 and 1 2 2 0 in place 5
             DrawnByLost x = laid("d2,4;m0,2;m1,2;m2,2;m6,1;w000;");
             knownAs(x, 6, 1);
